@@ -27,6 +27,9 @@ public final class CountTest {
         due.is("nearest(500, 500), the lowest", pad.nearest(500, 500), 1);
         due.is("nearest(104, 94), both ways count", pad.nearest(104, 94), 0);
         due.is("nearest(1000, 0)", pad.nearest(1000, 0), 1);
+        due.is("remove(1)", pad.remove(1), 2);
+        due.is("remove(1)", pad.remove(1), 1);
+        due.is("nearest(490, 490), strokes that are gone", pad.nearest(490, 490), 0);
         // 3 and 4 are nearer together than 0 and 6: the square counts, not the sum.
         InkPad slant = new InkPad();
         due.draws(slant, 0, 500, 506);
@@ -120,5 +123,7 @@ public final class CountTest {
         due.is("most then", pad.count(6), 16);
         due.is("cells of a color then", pad.color(0, 3), 24);
         due.is("cell(1000, 1000)", pad.cell(1000, 1000), 16);
+        due.is("nearest(0, 0) in a full pad", pad.nearest(0, 0), 0);
+        due.is("nearest(770, 0) in a full pad", pad.nearest(770, 0), 0);
     }
 }

@@ -51,6 +51,7 @@ public final class DrawRubTest {
         due.draws(pad, 2, 200, 10);
         due.draws(pad, 3, 0, 900, 10, 900);
         due.draws(pad, 0, 205, 0, 900, 0);
+        due.is("a fault that leaves points behind", due.reads(pad, "5,5 6,6 7"), -109);
         due.is("rub(200, 0, 10)", pad.rub(200, 0, 10), 3);
         due.is("count(0)", pad.count(0), 4);
         due.points("first part", pad, 0, 0, 0, 100, 0);
@@ -130,6 +131,9 @@ public final class DrawRubTest {
         due.is("their color", full.stroke(1, 0), 2);
         due.is("undo", full.undo(), 5);
         due.is("one part too many", full.rub(500, 0, 0), InkPad.FULL);
+        due.is("remove(15)", full.remove(15), 15);
+        due.is("a stroke that ends rubbed", due.draws(full, 0, 1, 1, 600, 0, 1, 2, 600, 0), 15);
+        due.is("one part too many, not the last", full.rub(600, 0, 0), InkPad.FULL);
         due.is("nothing rubbed with 16 strokes", full.rub(700, 700, 1), InkPad.NONE);
     }
 }

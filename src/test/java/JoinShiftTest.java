@@ -6,6 +6,7 @@ public final class JoinShiftTest {
         joinRoom(due);
         joinErrors(due);
         shift(due);
+        shiftByOne(due);
         shiftErrors(due);
         paint(due);
         remove(due);
@@ -107,6 +108,19 @@ public final class JoinShiftTest {
         due.points("across", pad, 1, 1000, 0);
         due.is("shift(1, -1000, 1000)", pad.shift(1, -1000, 1000), 1);
         due.points("and back", pad, 1, 0, 1000);
+    }
+
+    private static void shiftByOne(Due due) {
+        InkPad pad = new InkPad();
+        due.draws(pad, 0, 5, 5);
+        due.is("shift(0, 1, 0)", pad.shift(0, 1, 0), 1);
+        due.points("to the right", pad, 0, 6, 5);
+        due.is("shift(0, 0, 1)", pad.shift(0, 0, 1), 1);
+        due.points("down", pad, 0, 6, 6);
+        due.is("shift(0, -1, 0)", pad.shift(0, -1, 0), 1);
+        due.is("shift(0, 0, -1)", pad.shift(0, 0, -1), 1);
+        due.points("back again", pad, 0, 5, 5);
+        due.is("acts", pad.count(8), 5);
     }
 
     private static void shiftErrors(Due due) {

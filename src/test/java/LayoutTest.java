@@ -11,6 +11,7 @@ public final class LayoutTest {
         greatestRight(due);
         gap(due);
         changes(due);
+        askedFirst(due);
         errors(due);
         due.end();
     }
@@ -219,6 +220,26 @@ public final class LayoutTest {
         due.is("remove(0)", pad.remove(0), 1);
         due.is("line(1, 0)", pad.line(1, 0), InkPad.UNKNOWN);
         due.is("word(0, 2)", pad.word(0, 2), 20);
+    }
+
+    /** Each question, asked first, knows the strokes. */
+    private static void askedFirst(Due due) {
+        due.is("first: count(3)", twoWords(due).count(3), 2);
+        due.is("first: count(4)", twoWords(due).count(4), 2);
+        due.is("first: read(0)", twoWords(due).read(0), 1);
+        due.is("first: line(1, 0)", twoWords(due).line(1, 0), 90);
+        due.is("first: line(1, 4)", twoWords(due).line(1, 4), 1);
+        due.is("first: word(1, 0)", twoWords(due).word(1, 0), 1);
+        due.is("first: stroke(0, 7)", twoWords(due).stroke(0, 7), 1);
+        due.is("first: stroke(0, 8)", twoWords(due).stroke(0, 8), 1);
+        due.is("first: stroke(0, 9)", twoWords(due).stroke(0, 9), 1);
+    }
+
+    private static InkPad twoWords(Due due) {
+        InkPad pad = new InkPad();
+        box(due, pad, 1, 2, 90, 95);
+        box(due, pad, 3, 4, 10, 15);
+        return pad;
     }
 
     private static void errors(Due due) {

@@ -34,6 +34,7 @@ public final class TextTest {
         due.is("three points", due.reads(pad, "0,1000 1000,0 0012,0345"), 3);
         due.is("draw(1)", pad.draw(1), 1);
         due.points("three points", pad, 1, 0, 1000, 1000, 0, 12, 345);
+        due.is("the greatest at the end", due.reads(pad, "1000,1000"), 1);
         due.is("repeats", due.reads(pad, "5,5 05,005 6,5 6,5 5,5"), 3);
         due.is("draw(2)", pad.draw(2), 2);
         due.points("repeats", pad, 2, 5, 5, 6, 5, 5, 5);
