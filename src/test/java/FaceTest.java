@@ -57,8 +57,12 @@ public final class FaceTest {
     private static Set<String> constants() throws IllegalAccessException {
         Set<String> found = new TreeSet<>();
         for (Field field : InkPad.class.getDeclaredFields()) {
-            if (isOpen(field)) {
+            int modifiers = field.getModifiers();
+            if (Modifier.isPublic(modifiers) && Modifier.isStatic(modifiers)
+                    && Modifier.isFinal(modifiers) && field.getType() == int.class) {
                 found.add(field.getName() + " " + field.getInt(null));
+            } else if (isOpen(field)) {
+                found.add(field.toString());
             }
         }
         return found;

@@ -9,11 +9,12 @@ import java.util.regex.Pattern;
 /** The rules of LANGUAGE.md that the text of the class shows; it is run from the project's root. */
 public final class LanguageTest {
     private static final Path SOURCE = Path.of("src/main/java/InkPad.java");
-    private static final String[] FORBIDDEN = {
+    private static final String[] WORDS = {
         "throw", "throws", "try", "catch", "finally", "synchronized", "assert", "import", "package",
         "volatile", "native", "transient", "protected", "instanceof", "double", "float", "long",
-        "String", "StringBuilder", "Object", "Thread", "Random", "System\\.(?!arraycopy)", "Math\\.\\w+Exact",
-        "->", "::", "while", "@\\w+"};
+        "String", "StringBuilder", "Object", "Thread", "Random", "while"};
+    private static final String[] PATTERNS = {
+        "\\bSystem\\.(?!arraycopy)", "\\bMath\\.(?!(min|max)\\()", "->", "::", "@"};
     private static final int LONGEST_METHOD = 60;
 
     public static void main(String[] args) throws IOException {
@@ -33,13 +34,17 @@ public final class LanguageTest {
 
     /** Also what the rules allow but this class does not need: then it needs no look here either. */
     private static void forbidden(Due due, String code) {
-        for (String word : FORBIDDEN) {
-            boolean isWord = Character.isLetter(word.charAt(0));
-            Matcher matcher = Pattern.compile(isWord ? "\\b" + word + (word.endsWith(")") ? "" : "\\b") : word)
-                    .matcher(code);
-            if (matcher.find()) {
-                due.wrong("forbidden: " + matcher.group());
-            }
+        for (String word : WORDS) {
+            absent(due, code, "\\b" + word + "\\b");
+        }
+        for (String pattern : PATTERNS) {
+            absent(due, code, pattern);
+        }
+    }
+
+    private static void absent(Due due, String code, String pattern) {
+        if (Pattern.compile(pattern).matcher(code).find()) {
+            due.wrong("forbidden: " + pattern);
         }
     }
 
