@@ -107,10 +107,12 @@ public final class CountTest {
         InkPad pad = new InkPad();
         // 384 points in as many cells, in the corner with the highest ones.
         for (int stroke = 0; stroke < 16; stroke++) {
+            int[] coordinates = new int[48];
             for (int i = 0; i < 24; i++) {
-                due.puts(pad, 1000 - 10 * i, 1000 - 10 * stroke);
+                coordinates[2 * i] = 1000 - 10 * i;
+                coordinates[2 * i + 1] = 1000 - 10 * stroke;
             }
-            due.is("draw of 24", pad.draw(stroke % 4), stroke);
+            due.is("draw of 24", due.draws(pad, stroke % 4, coordinates), stroke);
         }
         due.is("points", pad.count(1), 384);
         due.is("cells", pad.count(5), 384);

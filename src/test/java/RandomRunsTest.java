@@ -7,6 +7,8 @@ import java.util.Random;
 public final class RandomRunsTest {
     private static final int RUNS = 1500;
     private static final int CALLS = 512;
+    // A step makes no more calls than these, but for the characters that it types.
+    private static final int STEP = 12;
 
     public static void main(String[] args) {
         Due due = new Due();
@@ -37,7 +39,7 @@ public final class RandomRunsTest {
     }
 
     private void play() {
-        while (calls < CALLS && due.wrongSoFar() < 20) {
+        while (calls < CALLS - STEP && due.wrongSoFar() < 20) {
             int kind = random.nextInt(10);
             if (kind < acts) {
                 act();
@@ -112,7 +114,7 @@ public final class RandomRunsTest {
             String signs = "0123456789, ,x\n" + (char) 255 + (char) 0x663;
             text.setCharAt(random.nextInt(text.length()), signs.charAt(random.nextInt(signs.length())));
         }
-        for (int i = 0; i < text.length(); i++) {
+        for (int i = 0; i < text.length() && calls < CALLS - STEP; i++) {
             char sign = text.charAt(i);
             same("type((char) " + (int) sign + ")", pad.type(sign), model.type(sign));
         }

@@ -95,20 +95,19 @@ public final class TextTest {
         for (int i = 1; i < 24; i++) {
             text.append(' ').append(i % 10).append(",1");
         }
-        InkPad pad = new InkPad();
-        due.is("24 points", due.reads(pad, text.toString()), 24);
-        due.is("a blank behind them", due.reads(pad, text + " "), -100 - 95);
-        due.is("a 25th point", due.reads(pad, text + " 9,9"), -100 - 95);
-        due.is("another sign behind them", due.reads(pad, text + "x"), -100 - 95);
-        due.is("a blank behind a number too great", due.reads(pad, text + "001 "), -100 - 94);
-        due.is("a fifth digit at the 24th point", due.reads(pad, text + "0000"), -100 - 98);
+        due.is("24 points", due.reads(new InkPad(), text.toString()), 24);
+        due.is("a blank behind them", due.reads(new InkPad(), text + " "), -100 - 95);
+        due.is("a 25th point", due.reads(new InkPad(), text + " 9,9"), -100 - 95);
+        due.is("another sign behind them", due.reads(new InkPad(), text + "x"), -100 - 95);
+        due.is("a blank behind a number too great", due.reads(new InkPad(), text + "001 "), -100 - 94);
+        due.is("a fifth digit at the 24th point", due.reads(new InkPad(), text + "0000"), -100 - 98);
         // Points that are left out count for the 24 all the same.
         StringBuilder same = new StringBuilder("1,1");
         for (int i = 1; i < 24; i++) {
             same.append(" 1,1");
         }
-        due.is("24 equal points", due.reads(pad, same.toString()), 1);
-        due.is("25 equal points", due.reads(pad, same + " 1,1"), -100 - 95);
+        due.is("24 equal points", due.reads(new InkPad(), same.toString()), 1);
+        due.is("25 equal points", due.reads(new InkPad(), same + " 1,1"), -100 - 95);
     }
 
     private static void buffer(Due due) {
